@@ -860,7 +860,6 @@ public final class SqlReader {
 
         /** What may stand before a statement: PREPARE name AS. */
         boolean begins() {
-            inItems = false;
             prepared = tokens.takes("PREPARE");
             return !prepared || title() && tokens.takes("AS");
         }

@@ -42,6 +42,7 @@ public final class Promise04ColumnTest {
     private static void twoOfOneName() {
         Probe probe = Probe.withTables();
         Probe.due("the same", probe.column("b", 0, 1), -2);
+        Probe.due("the same as the first", probe.column("a", 0, 1), -2);
         Probe.due("the same with a wrong type", probe.column("b", 0, 4), -1);
         Probe.due("another", probe.column("bb", 0, 1), 3);
         Probe.due("that of the table", probe.column("t", 0, 1), 4);

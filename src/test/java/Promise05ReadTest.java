@@ -16,6 +16,7 @@ public final class Promise05ReadTest {
         groups();
         locks();
         theFirstErrorCounts();
+        oneObjectGoesOn();
         Probe.finish("Promise 5");
     }
 
@@ -57,7 +58,7 @@ public final class Promise05ReadTest {
             "SELECT 1+p.a FROM t,u p", "SELECT aFROMt",
             "   SELECT   a   FROM   t   ", "SELECT t . a FROM t", "SELECT'x'FROM t",
             "SELECT a FROM t WHERE a<=1", "SELECT a FROM t WHERE a< -1",
-            "SELECT '' FROM t", "SELECT '''' FROM t", "SELECT ' ~' FROM t",
+            "SELECT '' FROM t", "SELECT '''' FROM t", "SELECT (b)||(b) FROM t", "SELECT ' ~' FROM t",
             "SELECT 000000000000000000 FROM t", "SELECT 999999999999999999 FROM t",
             "SELECT '1234567890123456789012345678901' FROM t",
             "SELECT '" + "''".repeat(31) + "' FROM t");
@@ -88,6 +89,7 @@ public final class Promise05ReadTest {
             "CREATE INDEX t (a)", "CREATE INDEX ON t", "CREATE INDEX ON t ()",
             "CREATE INDEX ON t (a, b)", "CREATE INDEX ON t (t.a)", "CREATE UNIQUE TABLE x (y INT)",
             "CREATE INDEX x ON t (a)", "DROP t", "DROP TABLE", "DROP TABLE t, u", "DROP TABLE t u",
+            "INSERT", "INSERT INTO", "INSERT INTO u SELECT", "UPDATE", "DELETE", "DROP", "LOCK",
             "INSERT t VALUES (1)", "INSERT INTO VALUES (1)", "INSERT INTO t", "INSERT INTO t (1)",
             "INSERT INTO t VALUES", "INSERT INTO t VALUES ()", "INSERT INTO t VALUES 1",
             "INSERT INTO u VALUES (1),", "INSERT INTO u VALUES (1) (2)", "INSERT INTO u VALUES (1,)",
@@ -178,6 +180,11 @@ public final class Promise05ReadTest {
         reads(4, "INSERT INTO u VALUES (" + "(".repeat(20) + "1" + ")".repeat(20) + ")");
         reads(-1, "INSERT INTO u VALUES (" + "(".repeat(21) + "1" + ")".repeat(21) + ")");
         reads(17, "EXECUTE p (" + "(".repeat(20) + "1" + ")".repeat(20) + ")");
+        reads(6, "UPDATE t SET a = " + "-".repeat(20) + "a WHERE " + "NOT ".repeat(20) + "c");
+        reads(-1, "UPDATE t SET a = " + "-".repeat(21) + "a", "DELETE FROM t WHERE " + "NOT ".repeat(21) + "c");
+        reads(8, "SELECT 1 FROM t WHERE a IN (" + "-".repeat(19) + "1, 2, " + "-".repeat(19) + "3)");
+        reads(-1, "SELECT 1 FROM t WHERE a IN (1, " + "-".repeat(20) + "1)",
+            "SELECT 1 FROM t WHERE a IN (" + "-".repeat(20) + "1, 1)");
     }
 
     private static void manyNodes() {
@@ -284,7 +291,7 @@ public final class Promise05ReadTest {
             "INSERT INTO t SELECT a, b, a FROM t", "INSERT INTO u SELECT b FROM t", "INSERT INTO v SELECT c, b FROM t",
             "INSERT INTO t SELECT * FROM v, t", "INSERT INTO v SELECT * FROM u, t", "UPDATE t SET a = 'x'",
             "UPDATE t SET b = 1", "UPDATE t SET c = a", "UPDATE t SET a = 1, b = b = b");
-        reads(5, "INSERT INTO v SELECT d + 1, NULL FROM v", "INSERT INTO u SELECT * FROM u");
+        reads(5, "INSERT INTO t SELECT d, e, TRUE FROM u, v", "INSERT INTO v SELECT d + 1, NULL FROM v", "INSERT INTO u SELECT * FROM u");
         reads(4, "INSERT INTO t VALUES (NULL, NULL, NULL), (-1, 'x' || 'y', 1 = 2)");
         reads(6, "UPDATE t SET a = NULL, b = NULL, c = NULL", "UPDATE t SET c = a IN (1, 2)");
     }
@@ -319,7 +326,7 @@ public final class Promise05ReadTest {
     private static void groups() {
         reads(-9, "SELECT COUNT(COUNT(*)) FROM t", "SELECT SUM(MIN(a)) FROM t", "SELECT MAX(1 + SUM(a)) FROM t",
             "SELECT a, COUNT(*) FROM t", "SELECT COUNT(*), a FROM t", "SELECT a + SUM(a) FROM t",
-            "SELECT a FROM t GROUP BY b", "SELECT * FROM t GROUP BY a", "SELECT a + d FROM t, v GROUP BY a",
+            "SELECT a FROM t GROUP BY b", "SELECT * FROM t GROUP BY a", "SELECT * FROM t GROUP BY b, c", "SELECT a + d FROM t, v GROUP BY a",
             "SELECT t.a FROM t, u GROUP BY u.a", "SELECT p.a FROM t p, t q GROUP BY q.a",
             "SELECT a, MIN(b) FROM t GROUP BY b", "INSERT INTO u SELECT a FROM t GROUP BY b",
             "SELECT u.a FROM t, u GROUP BY b, t.a",
@@ -346,7 +353,7 @@ public final class Promise05ReadTest {
     private static void theFirstErrorCounts() {
         reads(-4, "SELECT z FROM x", "SELECT a + b FROM t, x", "SELECT x.a, b + 1 FROM t");
         reads(-6, "SELECT z + b FROM t", "SELECT b + z FROM t", "SELECT z, x.a FROM t", "UPDATE t SET z = b + 1",
-            "UPDATE t SET a = 1, z = 'x' + 1", "SELECT z FROM t, u ORDER BY 9", "INSERT INTO u VALUES (z, 'x')");
+            "UPDATE t SET a = 1, z = 'x' + 1", "UPDATE t SET a = 1, z = x.y", "SELECT 'x' || 1 + z FROM t", "SELECT z FROM t, u ORDER BY 9", "INSERT INTO u VALUES (z, 'x')");
         reads(-7, "SELECT a + b FROM t, u", "SELECT a + z FROM t, u");
         reads(-8, "SELECT b + 1, z FROM t", "SELECT b + 1 FROM t WHERE z", "UPDATE t SET a = 'x', z = 1",
             "INSERT INTO u SELECT b FROM t WHERE z", "INSERT INTO v SELECT * FROM u, t WHERE z = 1",
@@ -356,5 +363,27 @@ public final class Promise05ReadTest {
         reads(-1, "SELECT a, COUNT(*) FROM t ORDER BY 3", "SELECT DISTINCT a FROM t ORDER BY 2 FOR UPDATE",
             "INSERT INTO t SELECT a FROM t FOR UPDATE", "SELECT COUNT($1), a FROM t", "SELECT z FROM x ORDER");
         reads(-9, "SELECT a, COUNT(*) FROM t FOR UPDATE", "SELECT DISTINCT a FROM t GROUP BY b FOR SHARE");
+    }
+
+    /** What one text was read as does not touch the next, error or not. */
+    private static void oneObjectGoesOn() {
+        Probe probe = Probe.withTables();
+        String[] wrongs = {"SELECT 1" + "+1".repeat(150) + " FROM t", "SELECT a FROM t ORDER BY 1,1,1,1,1", "SELECT (",
+            "SELECT MIN(", "PREPARE p AS", "SELECT * FROM zz", "SELECT DISTINCT a FROM t LIMIT 2 FOR SHARE",
+            "CREATE UNIQUE INDEX ON t (z)", "UPDATE t SET a = $1 WHERE c"};
+        for (String wrong : wrongs) {
+            probe.read(wrong);
+            probe.reads(4, "INSERT INTO u VALUES (1)");
+            probe.shows("SELECT a FROM t WHERE a = 1", "0.0 0.0 1 17(1,2)");
+        }
+        String[] fine = {"SELECT * FROM t", "PREPARE p AS SELECT $1 FROM t", "SELECT COUNT(*) FROM t"};
+        for (String text : fine) {
+            probe.read(text);
+            probe.shows("INSERT INTO u VALUES (1)", "1");
+            probe.reads(-1, "DELETE FROM t WHERE COUNT(*) = 1");
+            probe.read(text);
+            probe.shows("DELETE FROM t WHERE c", "0.2");
+            Probe.due("kind in PREPARE", probe.reader.count(14), 0);
+        }
     }
 }

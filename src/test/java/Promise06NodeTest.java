@@ -97,6 +97,7 @@ public final class Promise06NodeTest {
             "0.2 0.0 1 17(1,2) 17(0,3) 0.2 TRUE 17(5,6) 27(4,7)");
         item("NULL IN (NULL, 1)", "NULL NULL 17(0,1) NULL 1 17(3,4) 27(2,5)");
         item("COUNT(*) BETWEEN 1 AND 2", "5(-1) 1 22(0,1) 5(-1) 2 20(3,4) 26(2,5)");
+        item("COUNT(a) IN (1, 2)", "0.0 6(0) 1 17(1,2) 0.0 6(4) 2 17(5,6) 27(3,7)");
         item("SUM(a) IN (1, 2)", "0.0 7(0) 1 17(1,2) 0.0 7(4) 2 17(5,6) 27(3,7)");
         Probe.withTables().shows("PREPARE p AS SELECT $3 IN (1, 2), TRUE IN (FALSE, $1) FROM t",
             "$3 1 17(0,1) $3 2 17(3,4) 27(2,5) TRUE FALSE 17(7,8) TRUE $1 17(10,11) 27(9,12)");
