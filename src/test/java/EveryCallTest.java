@@ -22,8 +22,9 @@ public final class EveryCallTest {
         for (int run = 0; run < 6000; run++) {
             Probe one = Probe.withTables();
             Probe other = Probe.withTables();
-            for (int i = 0; i < 4; i++) {
-                String text = run % 8 == 0 ? noise(random) : statement(random);
+            boolean noisy = run % 3 == 0;
+            for (int i = 0; i < (noisy ? 1 : 4); i++) {
+                String text = noisy ? noise(random) : statement(random);
                 one.type(text);
                 other.type(text);
                 int answer = one.reader.read();
@@ -62,7 +63,7 @@ public final class EveryCallTest {
         return text.toString();
     }
 
-    private static void hangsTogether(SqlReader reader, String text, int answer) {
+    private static void hangsTogether(Counted reader, String text, int answer) {
         boolean fine = reader.count(0) <= 200 && (answer > 0 || reader.count(0) == 0);
         for (int k = 0; k < reader.count(0); k++) {
             int kind = reader.node(k, 0);

@@ -3,7 +3,7 @@ final class Probe {
     private static int wrong = 0;
     private static int asked = 0;
 
-    final SqlReader reader = new SqlReader();
+    final Counted reader = new Counted();
 
     /** t (a INT, b TEXT, c BOOL), u (a INT), v (d INT, e TEXT), w without columns. */
     static Probe withTables() {
@@ -55,6 +55,13 @@ final class Probe {
     int column(String text, int table, int type) {
         type(text);
         return reader.column(table, type);
+    }
+
+    /** Each text is read by an object of its own over the tables of the examples. */
+    static void each(int want, String... texts) {
+        for (String text : texts) {
+            withTables().reads(want, text);
+        }
     }
 
     /** Reads each text; the error or kind of every one is due. */
@@ -126,6 +133,18 @@ final class Probe {
             name.append((char) reader.name(k, i));
         }
         return name.toString();
+    }
+
+    static int asked() {
+        return asked;
+    }
+
+    static int wrong() {
+        return wrong;
+    }
+
+    static void due(String what, boolean got, boolean want) {
+        due(what, "" + got, "" + want);
     }
 
     static void due(String what, long got, long want) {

@@ -1,7 +1,7 @@
 /** Promise 1: an empty catalog; nothing typed or read. */
 public final class Promise01NewObjectTest {
     public static void main(String[] args) {
-        nothingIsRead(new SqlReader(), "new");
+        nothingIsRead(new Counted(), "new");
         nothingIsTyped();
         catalogIsEmpty();
         objectsAreApart();
@@ -9,7 +9,7 @@ public final class Promise01NewObjectTest {
         Probe.finish("Promise 1");
     }
 
-    private static void nothingIsRead(SqlReader reader, String when) {
+    private static void nothingIsRead(Counted reader, String when) {
         for (int k = -2; k < 3; k++) {
             for (int what = -1; what < 5; what++) {
                 Probe.due(when + " node " + k + " " + what, reader.node(k, what), -1);
@@ -54,13 +54,13 @@ public final class Promise01NewObjectTest {
     }
 
     private static void nothingIsLeftBehindAnError() {
-        Probe probe = Probe.withTables();
         String[] wrongs = {"x", "SELECT z FROM t", "SELECT a FROM t FOR", "SELECT b FROM t WHERE b",
             "SELECT COUNT(*), a FROM t", "CREATE TABLE x (y INT, y INT)",
             "UPDATE t SET a = 1, a = 2 WHERE c", "LOCK x SHARE", "CREATE UNIQUE INDEX ON t(z)",
             "INSERT INTO t VALUES (1, 'a', TRUE), (1)", "SELECT DISTINCT a FROM t LIMIT 3 FOR SHARE",
             "PREPARE p AS SELECT $3 + 1, $3 || 'a' FROM t", "EXECUTE p (1, $2)", "SAVEPOINT s s"};
         for (String text : wrongs) {
+            Probe probe = Probe.withTables();
             probe.read("PREPARE p AS UPDATE t SET a = $1 WHERE c");
             Probe.due("read " + text, probe.read(text) < 0 ? 1 : 0, 1);
             nothingIsRead(probe.reader, "behind " + text + ":");

@@ -20,11 +20,8 @@ public final class Promise05ReadTest {
         Probe.finish("Promise 5");
     }
 
-    /** Each text is read by an object of its own, so that none sees more than 512 calls. */
     private static void reads(int want, String... texts) {
-        for (String text : texts) {
-            Probe.withTables().reads(want, text);
-        }
+        Probe.each(want, texts);
     }
 
     private static void kinds() {
