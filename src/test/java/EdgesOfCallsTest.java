@@ -4,12 +4,15 @@ public final class EdgesOfCallsTest {
     private static final int[] NOTHING = {0, 0, 0, 0, 0, 0, 0, 0, 0, 0, 0, 0, -1, -1, 0, -1, -1, 0};
     /** A statement of each kind, from 1. */
     private static final String[] KINDS = {"CREATE TABLE xy (z INT)", "CREATE INDEX ON t (a)", "DROP TABLE t",
-        "INSERT INTO u VALUES (1)", "INSERT INTO u SELECT a FROM u", "UPDATE t SET a = 1", "DELETE FROM t", "SELECT a FROM t",
+        "INSERT INTO u VALUES (1)", "INSERT INTO u SELECT a FROM u", "UPDATE t SET a = 1", "DELETE FROM t",
+        "SELECT a FROM t",
         "BEGIN", "COMMIT", "ROLLBACK", "SAVEPOINT xy", "ROLLBACK TO xy", "RELEASE xy", "LOCK t SHARE",
         "PREPARE xy AS SELECT a FROM t", "EXECUTE xy", "VACUUM t", "CHECKPOINT"};
     /** A text of each error, from 1. */
-    private static final String[] ERRORS = {"SELECT", "SELECT 1" + "+1".repeat(100) + " FROM t", "SELECT 1,1,1,1,1,1,1,1,1 FROM t",
-        "DROP TABLE x", "SELECT 1 FROM t, t", "SELECT z FROM t", "SELECT a FROM t, u", "SELECT -b FROM t", "SELECT a FROM t GROUP BY b",
+    private static final String[] ERRORS = {"SELECT", "SELECT 1" + "+1".repeat(100) + " FROM t",
+        "SELECT 1,1,1,1,1,1,1,1,1 FROM t",
+        "DROP TABLE x", "SELECT 1 FROM t, t", "SELECT z FROM t", "SELECT a FROM t, u", "SELECT -b FROM t",
+        "SELECT a FROM t GROUP BY b",
         "SELECT DISTINCT a FROM t FOR SHARE"};
 
     public static void main(String[] args) {
@@ -26,7 +29,8 @@ public final class EdgesOfCallsTest {
     private static void catalogCalls(Edges edges) {
         edges.sentence("An empty catalog", EdgesOfCallsTest::emptyCatalog);
         edges.sentence("nothing typed or read", EdgesOfCallsTest::nothingTypedOrRead);
-        edges.sentence("The lowest n bytes of v, the highest of them first, come behind the text: true", EdgesOfCallsTest::lowestBytes);
+        edges.sentence("The lowest n bytes of v, the highest of them first, come behind the text: true",
+            EdgesOfCallsTest::lowestBytes);
         edges.sentence("false if n is not 1 .. 8", EdgesOfCallsTest::typeSizes);
         edges.sentence("or there would be more than 2000", EdgesOfCallsTest::typeRoom);
         edges.sentence("a new table of that name, without columns: its number", EdgesOfCallsTest::newTable);
@@ -45,7 +49,8 @@ public final class EdgesOfCallsTest {
         edges.sentence("Takes the text as a statement: its kind", EdgesOfCallsTest::kinds);
         edges.sentence("or the error below 0", EdgesOfCallsTest::errors);
         edges.sentence("What the calls below tell is of it", EdgesOfCallsTest::ofTheLastRead);
-        edges.sentence("What the calls below tell is of it (whatever was read before)", EdgesOfCallsTest::oneBehindAnother);
+        edges.sentence("What the calls below tell is of it (whatever was read before)",
+            EdgesOfCallsTest::oneBehindAnother);
         edges.sentence("0 or -1 behind an error as if there were nothing", EdgesOfCallsTest::behindErrors);
     }
 
@@ -92,8 +97,10 @@ public final class EdgesOfCallsTest {
         edges.sentence("3 tables (of the catalog)", EdgesOfCallsTest::listTables);
         edges.sentence("4 columns set, 5 their nodes", EdgesOfCallsTest::listSettings);
         edges.sentence("6 the nodes of rows, one after the other", EdgesOfCallsTest::listRows);
-        edges.sentence("7 types of columns in CREATE TABLE, + 10 for NOT NULL, + 20 for UNIQUE", EdgesOfCallsTest::listColumns);
-        edges.sentence("8 types of parameters 1, 2, .. (0 of one that does not come)", EdgesOfCallsTest::listParameters);
+        edges.sentence("7 types of columns in CREATE TABLE, + 10 for NOT NULL, + 20 for UNIQUE",
+            EdgesOfCallsTest::listColumns);
+        edges.sentence("8 types of parameters 1, 2, .. (0 of one that does not come)",
+            EdgesOfCallsTest::listParameters);
         edges.sentence("9 nodes of the values in EXECUTE", EdgesOfCallsTest::listValues);
         edges.sentence("Number i of a list (where all are full)", EdgesOfCallsTest::fullLists);
         edges.sentence("-1 if there is none such (list)", EdgesOfCallsTest::otherLists);
@@ -216,7 +223,8 @@ public final class EdgesOfCallsTest {
 
     private static void tableNames() {
         Probe probe = new Probe();
-        String[] wrongs = {"", " ", "A", "aB", "1", "_", "_a", "a b", " a", "a ", "a.b", "a;", "'a'", "\u0000", "a\u0000", "a\u00e9",
+        String[] wrongs = {"", " ", "A", "aB", "1", "_", "_a", "a b", " a", "a ", "a.b", "a;", "'a'", "\u0000",
+            "a\u0000", "a\u00e9",
             "abcdefghijklmnopq", "a".repeat(32), "a".repeat(33), "a".repeat(2000), "SELECT"};
         for (String wrong : wrongs) {
             Probe.due("table " + wrong, probe.table(wrong), -1);
@@ -273,7 +281,8 @@ public final class EdgesOfCallsTest {
     private static void columnNames() {
         Probe probe = new Probe();
         probe.table("t");
-        String[] wrongs = {"", " ", "A", "aB", "1", "_", "_a", "a b", " a", "a ", "t.a", "a;", "\u0000", "a\u0000", "a\u00e9",
+        String[] wrongs = {"", " ", "A", "aB", "1", "_", "_a", "a b", " a", "a ", "t.a", "a;", "\u0000", "a\u0000",
+            "a\u00e9",
             "abcdefghijklmnopq", "a".repeat(32), "a".repeat(33), "a".repeat(2000)};
         for (String wrong : wrongs) {
             Probe.due("column " + wrong, probe.column(wrong, 0, 1), -1);
@@ -388,10 +397,14 @@ public final class EdgesOfCallsTest {
     }
 
     private static void oneBehindAnother() {
-        String[] more = {"SELECT * FROM t WHERE a = 1", "CREATE UNIQUE INDEX ON v (e)", "BEGIN SERIALIZABLE", "SELECT b FROM t FOR UPDATE",
-            "PREPARE p AS UPDATE t SET c = $3, a = $1 WHERE $2", "SELECT DISTINCT MIN(a) + 1, 'x' FROM t p GROUP BY b ORDER BY 2 LIMIT 9",
-            "EXECUTE q (1, 2 IN (3, 4))", "INSERT INTO v SELECT * FROM v", "UPDATE t SET z = 1", "SELECT 'x' = z FROM t",
-            "SELECT a FROM t ORDER BY 1,1,1,1,1", "SELECT x.a FROM t, u"};
+        String[] more = {"SELECT * FROM t WHERE a = 1", "CREATE UNIQUE INDEX ON v (e)", "BEGIN SERIALIZABLE",
+            "SELECT b FROM t FOR UPDATE",
+            "PREPARE p AS UPDATE t SET c = $3, a = $1 WHERE $2",
+            "SELECT DISTINCT MIN(a) + 1, 'x' FROM t p GROUP BY b ORDER BY 2 LIMIT 9",
+            "EXECUTE q (1, 2 IN (3, 4))", "INSERT INTO v SELECT * FROM v", "UPDATE t SET z = 1",
+            "SELECT 'x' = z FROM t",
+            "SELECT a FROM t ORDER BY 1,1,1,1,1", "SELECT x.a FROM t, u", "SELECT p.a FROM t p", "SELECT t.a FROM t",
+            "CREATE TABLE y (z INT,"};
         String[] texts = new String[KINDS.length + more.length];
         System.arraycopy(KINDS, 0, texts, 0, KINDS.length);
         System.arraycopy(more, 0, texts, KINDS.length, more.length);
@@ -422,8 +435,10 @@ public final class EdgesOfCallsTest {
             probe.read(error);
             asNothing(probe, "behind " + error);
         }
-        String[] lates = {"UPDATE t SET a = 1, a = 2 WHERE c", "INSERT INTO t VALUES (1)", "CREATE UNIQUE INDEX ON t (z)", "LOCK x SHARE",
-            "CREATE TABLE x (a INT, a INT)", "EXECUTE p (1, $1)", "PREPARE p AS SELECT $1 FROM t ORDER BY 2", "SAVEPOINT s s",
+        String[] lates = {"UPDATE t SET a = 1, a = 2 WHERE c", "INSERT INTO t VALUES (1)",
+            "CREATE UNIQUE INDEX ON t (z)", "LOCK x SHARE",
+            "CREATE TABLE x (a INT, a INT)", "EXECUTE p (1, $1)", "PREPARE p AS SELECT $1 FROM t ORDER BY 2",
+            "SAVEPOINT s s",
             "BEGIN SERIALIZABLE READ", "SELECT * FROM t ORDER BY 4"};
         for (String late : lates) {
             Probe probe = Probe.withTables();
@@ -516,7 +531,8 @@ public final class EdgesOfCallsTest {
 
     private static void numbers() {
         Probe probe = Probe.withTables();
-        probe.read("SELECT 0, 1, 999999999999999999, 000000000000000000, 2147483647, 2147483648, 4294967295, 4294967296 FROM t");
+        probe.read("SELECT 0, 1, 999999999999999999, 000000000000000000, 2147483647, 2147483648, 4294967295, 4294967296"
+            + " FROM t");
         long[] want = {0, 1, 999999999999999999L, 0, 2147483647L, 2147483648L, 4294967295L, 4294967296L};
         for (int k = 0; k < want.length; k++) {
             Probe.due("number " + k, probe.reader.value(k), want[k]);
@@ -692,7 +708,8 @@ public final class EdgesOfCallsTest {
         counted(12, "SELECT a FROM t LIMIT 1", 1);
         counted(12, "SELECT a FROM t LIMIT 2147483646", 2147483646);
         counted(12, "SELECT a FROM t LIMIT 2147483647", 2147483647);
-        String[] larger = {"2147483648", "4294967295", "4294967296", "4294967297", "9223372036854775", "999999999999999999"};
+        String[] larger = {"2147483648", "4294967295", "4294967296", "4294967297", "9223372036854775",
+            "999999999999999999"};
         for (String number : larger) {
             counted(12, "SELECT a FROM t LIMIT " + number, 2147483647);
         }
@@ -884,24 +901,29 @@ public final class EdgesOfCallsTest {
     }
 
     private static void fullLists() {
-        full(Probe.withTables(), "SELECT p.a,p.b,p.c,q.a,p.a,p.b,p.c,q.a FROM t p, t q, w GROUP BY p.a, p.b, p.c, q.a ORDER BY 8, 7, 6, 5",
+        full(Probe.withTables(), "SELECT p.a,p.b,p.c,q.a,p.a,p.b,p.c,q.a FROM t p, t q, w"
+            + " GROUP BY p.a, p.b, p.c, q.a ORDER BY 8, 7, 6, 5",
             "0 0 1 2 3 4 5 6 7", "1 8 9 10 11", "2 7 6 5 4", "3 0 0 3");
         Probe wide = new Probe();
         wide.make("y", "");
         wide.make("x", "a1 b1 c1 d1 e1 f1 g1 h1");
-        full(wide, "PREPARE p AS UPDATE x SET h=$1,g=$2,f=$3,e=$4,d=$5,c=$6,b=$7,a=$8 WHERE $9", "3 1", "4 7 6 5 4 3 2 1 0",
+        full(wide, "PREPARE p AS UPDATE x SET a=$1,h=$2,g=$3,f=$4,e=$5,d=$6,c=$7,b=$8 WHERE $9", "3 1",
+            "4 0 7 6 5 4 3 2 1",
             "5 0 1 2 3 4 5 6 7", "8 1 1 1 1 1 1 1 1 3");
         full(wide, "PREPARE p AS INSERT INTO x VALUES ($1,$2,$3,$4,$5,$6,$7,$8),($9,9,9,9,9,9,9,9)",
             "6 0 1 2 3 4 5 6 7 8 9 10 11 12 13 14 15", "8 1 1 1 1 1 1 1 1 1");
         Probe rows = new Probe();
         rows.make("x", "a1");
-        full(rows, "PREPARE p AS INSERT INTO x VALUES (1)" + ",(1)".repeat(198) + ",($9)", "6 " + upTo(200), "8 0 0 0 0 0 0 0 0 1");
-        full(new Probe(), "CREATE TABLE x (a INT,b INT,c INT,d INT,e INT,f INT,g INT,h TEXT UNIQUE)", "7 1 1 1 1 1 1 1 22");
+        full(rows, "PREPARE p AS INSERT INTO x VALUES (1)" + ",(1)".repeat(198) + ",($9)", "6 " + upTo(200),
+            "8 0 0 0 0 0 0 0 0 1");
+        full(new Probe(), "CREATE TABLE x (a INT,b INT,c INT,d INT,e INT,f INT,g INT,h TEXT UNIQUE)",
+            "7 1 1 1 1 1 1 1 22");
         full(new Probe(), "EXECUTE p (1" + ",1".repeat(199) + ")", "9 " + upTo(200));
     }
 
     private static void otherLists() {
-        String[] texts = {"SELECT 1, 2 FROM t p, u ORDER BY 1", "UPDATE t SET a = 1, b = 'x'", "INSERT INTO v VALUES (1, 'x'), (2, 'y')",
+        String[] texts = {"SELECT 1, 2 FROM t p, u ORDER BY 1", "UPDATE t SET a = 1, b = 'x'",
+            "INSERT INTO v VALUES (1, 'x'), (2, 'y')",
             "CREATE TABLE x (y INT, z INT)", "EXECUTE p (1, 2)", "PREPARE p AS SELECT $2 FROM t"};
         for (String text : texts) {
             Probe probe = Probe.withTables();

@@ -34,10 +34,12 @@ public final class EdgesOfErrorsTest {
         edges.sentence("from the left", EdgesOfErrorsTest::tablesFromTheLeft);
         edges.sentence("5 two tables of a query have one name", EdgesOfErrorsTest::tableTwice);
         edges.sentence("(the second name counts, if there is one)", EdgesOfErrorsTest::secondNames);
-        edges.sentence("Secondly, from the left, what works on operands behind them", EdgesOfErrorsTest::placesFromTheLeft);
+        edges.sentence("Secondly, from the left, what works on operands behind them",
+            EdgesOfErrorsTest::placesFromTheLeft);
         edges.sentence("6 a place (or a name in SET, or in CREATE INDEX) is no column of the tables",
             EdgesOfErrorsTest::noColumn);
-        edges.sentence("(4, if a name stands before it that is none of the query's tables)", EdgesOfErrorsTest::noQualifier);
+        edges.sentence("(4, if a name stands before it that is none of the query's tables)",
+            EdgesOfErrorsTest::noQualifier);
         edges.sentence("7 it is one of several of them", EdgesOfErrorsTest::severalColumns);
         edges.sentence("* stands for all columns, table by table", EdgesOfErrorsTest::star);
         edges.sentence("in SET and rows of INSERT places have no table", EdgesOfErrorsTest::noTables);
@@ -55,7 +57,8 @@ public final class EdgesOfErrorsTest {
         edges.sentence("or an item", EdgesOfErrorsTest::itemTypes);
         edges.sentence("also one that * stands for, where * stands", EdgesOfErrorsTest::starTypes);
         edges.sentence("and SET that of the column", EdgesOfErrorsTest::setTypes);
-        edges.sentence("The types: 1, 5 .. 7, 10 .. 15 INT, 2, 16 TEXT, 3, 17 .. 27 BOOL", EdgesOfErrorsTest::typesOfKinds);
+        edges.sentence("The types: 1, 5 .. 7, 10 .. 15 INT, 2, 16 TEXT, 3, 17 .. 27 BOOL",
+            EdgesOfErrorsTest::typesOfKinds);
         edges.sentence("4 that of the column, 8 and 9 that of the operand", EdgesOfErrorsTest::typesOfOperands);
         edges.sentence("NULL fits all, its type is 0", EdgesOfErrorsTest::nullFits);
     }
@@ -66,7 +69,8 @@ public final class EdgesOfErrorsTest {
         edges.sentence("17 to 22 with NULL or a parameter without a type on the other side",
             EdgesOfErrorsTest::anyOtherSide);
         edges.sentence("an item alone", EdgesOfErrorsTest::itemAlone);
-        edges.sentence("a value or item of INSERT behind all columns of its table", EdgesOfErrorsTest::behindAllColumns);
+        edges.sentence("a value or item of INSERT behind all columns of its table",
+            EdgesOfErrorsTest::behindAllColumns);
     }
 
     private static void measures(Edges edges) {
@@ -82,7 +86,8 @@ public final class EdgesOfErrorsTest {
 
     private static void atLast(Edges edges) {
         edges.sentence("At last: 9 an aggregate stands in one", EdgesOfErrorsTest::aggregateInOne);
-        edges.sentence("or there is one, and an item has a place, outside of aggregates", EdgesOfErrorsTest::aggregateBeside);
+        edges.sentence("or there is one, and an item has a place, outside of aggregates",
+            EdgesOfErrorsTest::aggregateBeside);
         edges.sentence("or GROUP BY, and an item has a place that is not grouped by", EdgesOfErrorsTest::notGrouped);
         edges.sentence("(the same column of the same table)", EdgesOfErrorsTest::sameColumn);
         edges.sentence("10 FOR with several tables", EdgesOfErrorsTest::forTables);
@@ -105,7 +110,8 @@ public final class EdgesOfErrorsTest {
 
     private static void noStatement() {
         Probe.each(-1, "", "SELECT", "SELECT a FROM t x y", "SELECT " + sum(201) + " FROM", "SELECT z FROM zz,",
-            "SELECT " + sum(301) + " FROM t WHERE", "SELECT a,a,a,a,a,a,a,a,a FROM t WHERE", "SELECT a FROM t, t, t, t LIMIT",
+            "SELECT " + sum(301) + " FROM t WHERE", "SELECT a,a,a,a,a,a,a,a,a FROM t WHERE",
+            "SELECT a FROM t, t, t, t LIMIT",
             "SELECT 1 FROM t ORDER BY 1,1,1,1,1,", "SELECT 1 FROM t GROUP BY a,a,a,a,a,", "UPDATE zz SET a = 1,",
             "CREATE TABLE x (a INT,b INT,c INT,d INT,e INT,f INT,g INT,h INT,i INT", "SELECT a + b FROM t, u, t FOR",
             "INSERT INTO u VALUES (1)" + ",(1)".repeat(201) + ",", "EXECUTE p (1" + ",1".repeat(201));
@@ -119,7 +125,8 @@ public final class EdgesOfErrorsTest {
             "SELECT DISTINCT a , b FROM t~ p~ , u~ WHERE c~ AND a~ IN ( 1 )",
             "SELECT p . a , 2 FROM t~ p~ GROUP BY p~ . a~ , b~ ORDER BY 1~ DESC~ , 2~ LIMIT 3~ FOR SHARE",
             "BEGIN~ READ COMMITTED", "BEGIN~ REPEATABLE READ", "LOCK t SHARE~ ROW EXCLUSIVE", "LOCK t ACCESS SHARE",
-            "LOCK t SHARE~ UPDATE EXCLUSIVE", "PREPARE p AS SELECT $1 FROM t", "EXECUTE p~ ( 1 , 2 )", "VACUUM t", "RELEASE s",
+            "LOCK t SHARE~ UPDATE EXCLUSIVE", "PREPARE p AS SELECT $1 FROM t", "EXECUTE p~ ( 1 , 2 )", "VACUUM t",
+            "RELEASE s",
             "PREPARE p AS INSERT INTO u VALUES ( - 1 )", "SELECT COUNT ( * ) , MIN ( a ) FROM t",
             "SELECT NOT a NOT BETWEEN 1 AND 2 OR b IS NOT NULL FROM t"};
         for (String text : texts) {
@@ -143,7 +150,8 @@ public final class EdgesOfErrorsTest {
         Probe.each(7, "DELETE FROM t WHERE " + truth(200));
         Probe.each(-2, "DELETE FROM t WHERE " + truth(201));
         Probe.each(4, "INSERT INTO u VALUES (1)" + ",(1)".repeat(199), "INSERT INTO u VALUES (" + sum(199) + "),(1)");
-        Probe.each(-2, "INSERT INTO u VALUES (1)" + ",(1)".repeat(200), "INSERT INTO u VALUES (" + sum(199) + "),(1),(1)");
+        Probe.each(-2, "INSERT INTO u VALUES (1)" + ",(1)".repeat(200),
+            "INSERT INTO u VALUES (" + sum(199) + "),(1),(1)");
         Probe.each(5, "INSERT INTO u SELECT " + sum(199) + " FROM t WHERE c");
         Probe.each(-2, "INSERT INTO u SELECT " + sum(199) + " FROM t WHERE NOT c");
         Probe.each(17, "EXECUTE p (1" + ",1".repeat(199) + ")");
@@ -151,7 +159,8 @@ public final class EdgesOfErrorsTest {
         Probe.each(16, "PREPARE p AS DELETE FROM t WHERE " + truth(200));
         Probe.each(-2, "PREPARE p AS DELETE FROM t WHERE " + truth(201));
         Probe.each(-2, "SELECT a,a,a,a,a,a,a,a," + sum(199) + " FROM t", "SELECT " + sum(201) + " FROM zz",
-            "SELECT " + sum(201) + " + b FROM t", "DELETE FROM zz WHERE " + truth(201), "SELECT " + sum(901) + " FROM t");
+            "SELECT " + sum(201) + " + b FROM t", "DELETE FROM zz WHERE " + truth(201),
+            "SELECT " + sum(901) + " FROM t");
     }
 
     private static void manyNodesWithoutStar() {
@@ -168,13 +177,15 @@ public final class EdgesOfErrorsTest {
         Probe.each(8, "SELECT 1 FROM t", "SELECT 1 FROM t, u", "SELECT 1 FROM t, u, v", "SELECT 1 FROM t p, t q, t r");
         Probe.each(5, "INSERT INTO u SELECT 1 FROM t, u, v");
         Probe.each(-3, "SELECT 1 FROM t, u, v, w", "SELECT 1 FROM t p, t q, t r, t s", "SELECT 1 FROM t, u, v, t",
-            "INSERT INTO u SELECT 1 FROM t, u, v, w", "PREPARE p AS SELECT 1 FROM t, u, v, w", "SELECT 1 FROM zz, u, v, w",
+            "INSERT INTO u SELECT 1 FROM t, u, v, w", "PREPARE p AS SELECT 1 FROM t, u, v, w",
+            "SELECT 1 FROM zz, u, v, w",
             "SELECT * FROM t, u, v, w", "SELECT 1 FROM t" + ",t".repeat(300));
     }
 
     private static void manyItems() {
         Probe.each(8, "SELECT 1 FROM t", "SELECT 1,1,1,1,1,1,1,1 FROM t");
-        Probe.each(-3, "SELECT 1,1,1,1,1,1,1,1,1 FROM t", "SELECT 1,1,1,1,1,1,1,1,1 FROM zz", "SELECT z,1,1,1,1,1,1,1,1 FROM t",
+        Probe.each(-3, "SELECT 1,1,1,1,1,1,1,1,1 FROM t", "SELECT 1,1,1,1,1,1,1,1,1 FROM zz",
+            "SELECT z,1,1,1,1,1,1,1,1 FROM t",
             "INSERT INTO t SELECT 1,1,1,1,1,1,1,1,1 FROM t", "SELECT DISTINCT 1,1,1,1,1,1,1,1,1 FROM t",
             "SELECT 1" + ",1".repeat(199) + " FROM t");
         Probe wide = new Probe();
@@ -186,14 +197,16 @@ public final class EdgesOfErrorsTest {
     }
 
     private static void manyGroups() {
-        Probe.each(8, "SELECT 1 FROM t GROUP BY a", "SELECT 1 FROM t GROUP BY a,b,c,a", "SELECT a FROM t GROUP BY a,a,a,a");
+        Probe.each(8, "SELECT 1 FROM t GROUP BY a", "SELECT 1 FROM t GROUP BY a,b,c,a",
+            "SELECT a FROM t GROUP BY a,a,a,a");
         Probe.each(-3, "SELECT 1 FROM t GROUP BY a,b,c,a,b", "SELECT 1 FROM t GROUP BY z,z,z,z,z",
             "SELECT 1 FROM zz GROUP BY a,a,a,a,a", "INSERT INTO u SELECT 1 FROM t GROUP BY a,b,c,a,b",
             "SELECT 1 FROM t GROUP BY a" + ",a".repeat(198));
     }
 
     private static void manyOrders() {
-        Probe.each(8, "SELECT 1 FROM t ORDER BY 1", "SELECT 1 FROM t ORDER BY 1,1,1,1", "SELECT 1,2 FROM t ORDER BY 1,2 DESC,1,2");
+        Probe.each(8, "SELECT 1 FROM t ORDER BY 1", "SELECT 1 FROM t ORDER BY 1,1,1,1",
+            "SELECT 1,2 FROM t ORDER BY 1,2 DESC,1,2");
         Probe.each(-3, "SELECT 1 FROM t ORDER BY 1,1,1,1,1", "SELECT 1 FROM t ORDER BY 9,9,9,9,9",
             "SELECT 1 FROM zz ORDER BY 1,1,1,1 DESC,1", "INSERT INTO u SELECT 1 FROM t ORDER BY 1,1,1,1,1",
             "SELECT 1 FROM t ORDER BY 1" + ",1".repeat(900));
@@ -212,7 +225,8 @@ public final class EdgesOfErrorsTest {
         probe.make("x", EIGHT);
         String eight = "a=1,b=1,c=1,d=1,e=1,f=1,g=1,h=1";
         probe.reads(6, "UPDATE x SET a=1", "UPDATE x SET " + eight, "UPDATE x SET " + eight + " WHERE TRUE");
-        probe.reads(-3, "UPDATE x SET " + eight + ",a=1", "UPDATE x SET " + eight + ",z=1", "UPDATE zz SET " + eight + ",a=1");
+        probe.reads(-3, "UPDATE x SET " + eight + ",a=1", "UPDATE x SET " + eight + ",z=1",
+            "UPDATE zz SET " + eight + ",a=1");
         probe.reads(-1, "UPDATE x SET a=1" + ",a=1".repeat(7));
         Probe.each(-3, "UPDATE t SET a=1" + ",a=1".repeat(8), "PREPARE p AS UPDATE t SET a=1" + ",a=1".repeat(8));
     }
@@ -227,7 +241,8 @@ public final class EdgesOfErrorsTest {
             Probe.each(-4, before[i] + "x" + behind[i], before[i] + "uu" + behind[i], before[i] + "a" + behind[i]);
             new Probe().reads(-4, before[i] + "u" + behind[i]);
         }
-        Probe.each(-4, "SELECT 1 FROM t, x", "SELECT 1 FROM t, u, x", "INSERT INTO u SELECT 1 FROM x", "SELECT 1 FROM x t");
+        Probe.each(-4, "SELECT 1 FROM t, x", "SELECT 1 FROM t, u, x", "INSERT INTO u SELECT 1 FROM x",
+            "SELECT 1 FROM x t");
     }
 
     private static void newTable() {
@@ -236,7 +251,8 @@ public final class EdgesOfErrorsTest {
     }
 
     private static void tablesFromTheLeft() {
-        Probe.each(-4, "INSERT INTO x SELECT 1 FROM t, t", "SELECT 1 FROM x, t, t", "SELECT 1 FROM t, x, t", "SELECT 1 FROM x, x");
+        Probe.each(-4, "INSERT INTO x SELECT 1 FROM t, t", "SELECT 1 FROM x, t, t", "SELECT 1 FROM t, x, t",
+            "SELECT 1 FROM x, x");
         Probe.each(-5, "SELECT 1 FROM t, t, x", "INSERT INTO u SELECT 1 FROM t, t, x");
     }
 
@@ -248,17 +264,21 @@ public final class EdgesOfErrorsTest {
     }
 
     private static void secondNames() {
-        Probe.each(-5, "SELECT 1 FROM t p, u p", "SELECT 1 FROM t, u t", "SELECT 1 FROM t u, u", "SELECT 1 FROM t p, u, v p",
+        Probe.each(-5, "SELECT 1 FROM t p, u p", "SELECT 1 FROM t, u t", "SELECT 1 FROM t u, u",
+            "SELECT 1 FROM t p, u, v p",
             "SELECT 1 FROM t t, t");
-        Probe.each(8, "SELECT 1 FROM t, t p", "SELECT 1 FROM t p, t", "SELECT 1 FROM t u, u t", "SELECT 1 FROM t p, t q, t r",
+        Probe.each(8, "SELECT 1 FROM t, t p", "SELECT 1 FROM t p, t", "SELECT 1 FROM t u, u t",
+            "SELECT 1 FROM t p, t q, t r",
             "SELECT 1 FROM t t", "SELECT p.a, t.a FROM t p, u t");
         Probe.each(-4, "SELECT t.a FROM t p", "SELECT 1 FROM p t");
     }
 
     private static void placesFromTheLeft() {
-        Probe.each(-6, "SELECT z + b FROM t", "SELECT b + z FROM t", "SELECT z, x.a FROM t", "SELECT a, z FROM t WHERE b",
+        Probe.each(-6, "SELECT z + b FROM t", "SELECT b + z FROM t", "SELECT z, x.a FROM t",
+            "SELECT a, z FROM t WHERE b",
             "UPDATE t SET z = b + 1", "UPDATE t SET a = z, b = 1",
-            "UPDATE t SET a = 1, z = x.y", "UPDATE t SET a = 1, z = -'x'", "SELECT 'x' || 1 + z FROM t", "SELECT z FROM t WHERE x.a");
+            "UPDATE t SET a = 1, z = x.y", "UPDATE t SET a = 1, z = -'x'", "SELECT 'x' || 1 + z FROM t",
+            "SELECT z FROM t WHERE x.a");
         Probe.each(-4, "SELECT x.a, z FROM t", "SELECT b + x.a FROM t");
         Probe.each(-7, "SELECT a + z FROM t, u", "SELECT b + a FROM t, u", "SELECT a, z FROM t, u WHERE 1");
         Probe.each(-8, "SELECT -b, z FROM t", "SELECT a + b, x.a FROM t", "SELECT b || 1, a FROM t, u",
@@ -271,14 +291,17 @@ public final class EdgesOfErrorsTest {
             "SELECT u.b FROM t, u", "SELECT d FROM t, u", "SELECT a FROM t WHERE z", "SELECT a FROM t GROUP BY z",
             "SELECT a FROM t GROUP BY t.d", "SELECT COUNT(z) FROM t", "UPDATE t SET z = 1", "UPDATE t SET d = 1",
             "UPDATE w SET a = 1", "UPDATE t SET a = 1, z = 2", "CREATE INDEX ON t (z)", "CREATE INDEX ON u (b)",
-            "CREATE INDEX ON w (a)", "DELETE FROM t WHERE z", "INSERT INTO u SELECT z FROM t", "PREPARE p AS SELECT z FROM t");
-        Probe.each(8, "SELECT a, b, c FROM t", "SELECT d FROM t, v", "SELECT t.a FROM t, u, v WHERE e = b GROUP BY t.a");
+            "CREATE INDEX ON w (a)", "DELETE FROM t WHERE z", "INSERT INTO u SELECT z FROM t",
+            "PREPARE p AS SELECT z FROM t");
+        Probe.each(8, "SELECT a, b, c FROM t", "SELECT d FROM t, v",
+            "SELECT t.a FROM t, u, v WHERE e = b GROUP BY t.a");
         Probe.each(6, "UPDATE t SET a = 1", "UPDATE t SET c = TRUE");
         Probe.each(2, "CREATE INDEX ON t (a)", "CREATE INDEX ON t (c)");
     }
 
     private static void noQualifier() {
-        Probe.each(-4, "SELECT u.a FROM t", "SELECT x.a FROM t", "SELECT x.z FROM t", "SELECT a.a FROM t", "SELECT t.a FROM t p",
+        Probe.each(-4, "SELECT u.a FROM t", "SELECT x.a FROM t", "SELECT x.z FROM t", "SELECT a.a FROM t",
+            "SELECT t.a FROM t p",
             "SELECT a FROM t WHERE u.a = 1", "SELECT a FROM t GROUP BY u.a", "INSERT INTO u SELECT u.a FROM t",
             "UPDATE t SET a = u.a", "DELETE FROM t WHERE u.a = 1", "INSERT INTO u VALUES (u.a)", "EXECUTE p (t.a)");
         Probe.each(-6, "SELECT t.z FROM t", "SELECT p.z FROM t p", "UPDATE t SET a = t.z");
@@ -287,7 +310,8 @@ public final class EdgesOfErrorsTest {
 
     private static void severalColumns() {
         Probe.each(8, "SELECT a FROM t", "SELECT b FROM t, u", "SELECT t.a FROM t, u", "SELECT a FROM w, t, v");
-        Probe.each(-7, "SELECT a FROM t, u", "SELECT a FROM u, t", "SELECT a FROM t, v, u", "SELECT a FROM t p, t q, t r",
+        Probe.each(-7, "SELECT a FROM t, u", "SELECT a FROM u, t", "SELECT a FROM t, v, u",
+            "SELECT a FROM t p, t q, t r",
             "SELECT b FROM t p, u, t q", "SELECT t.a FROM t, u WHERE a = 1", "SELECT t.a FROM t, u GROUP BY a",
             "INSERT INTO u SELECT a FROM t, u", "SELECT e FROM v, v w");
     }
@@ -356,7 +380,8 @@ public final class EdgesOfErrorsTest {
         }
         worksOnOne("-", " FROM t", true, true, false, false);
         worksOnOne("SUM(", ") FROM t", true, true, false, false);
-        Probe.each(-8, "SELECT 1 + 'x' FROM t", "SELECT -(1 = 1) FROM t", "SELECT SUM(1 IS NULL) FROM t", "EXECUTE p (-'x')");
+        Probe.each(-8, "SELECT 1 + 'x' FROM t", "SELECT -(1 = 1) FROM t", "SELECT SUM(1 IS NULL) FROM t",
+            "EXECUTE p (-'x')");
     }
 
     private static void needText() {
@@ -391,7 +416,8 @@ public final class EdgesOfErrorsTest {
                 }
             }
         }
-        Probe.each(-8, "SELECT a BETWEEN 'x' AND 1 FROM t", "SELECT a BETWEEN 1 AND 'x' FROM t", "SELECT a IN ('x') FROM t",
+        Probe.each(-8, "SELECT a BETWEEN 'x' AND 1 FROM t", "SELECT a BETWEEN 1 AND 'x' FROM t",
+            "SELECT a IN ('x') FROM t",
             "SELECT a IN (1, 2, 'x') FROM t", "SELECT NULL IN (1, 'x', a = b) FROM t");
         Probe.each(8, "SELECT NULL BETWEEN 1 AND 'x' FROM t", "SELECT NULL IN (1, 'x', TRUE) FROM t");
     }
@@ -404,9 +430,11 @@ public final class EdgesOfErrorsTest {
             Probe.each(fits(i, 3) ? 4 : -8, "INSERT INTO t VALUES (1,'x'," + values[i] + ")",
                 "INSERT INTO t VALUES (1,'x',TRUE),(1,'x'," + values[i] + ")");
             // Behind the last column nothing is needed; that there are too many is seen later.
-            Probe.each(-1, "INSERT INTO t VALUES (1,'x',TRUE," + values[i] + ")", "INSERT INTO w VALUES (" + values[i] + ")");
+            Probe.each(-1, "INSERT INTO t VALUES (1,'x',TRUE," + values[i] + ")",
+                "INSERT INTO w VALUES (" + values[i] + ")");
         }
-        Probe.each(-8, "INSERT INTO t VALUES ('x')", "INSERT INTO u VALUES (1, 2), ('x')", "INSERT INTO t VALUES (1, 'x', TRUE, -'x')");
+        Probe.each(-8, "INSERT INTO t VALUES ('x')", "INSERT INTO u VALUES (1, 2), ('x')",
+            "INSERT INTO t VALUES (1, 'x', TRUE, -'x')");
     }
 
     private static void itemTypes() {
@@ -415,7 +443,8 @@ public final class EdgesOfErrorsTest {
             Probe.each(fits(i, 1) ? 5 : -8, "INSERT INTO t SELECT " + values[i] + ",b,c FROM t");
             Probe.each(fits(i, 2) ? 5 : -8, "INSERT INTO t SELECT a," + values[i] + ",c FROM t");
             Probe.each(fits(i, 3) ? 5 : -8, "INSERT INTO t SELECT a,b," + values[i] + " FROM t");
-            Probe.each(-1, "INSERT INTO t SELECT a,b,c," + values[i] + " FROM t", "INSERT INTO w SELECT " + values[i] + " FROM t");
+            Probe.each(-1, "INSERT INTO t SELECT a,b,c," + values[i] + " FROM t",
+                "INSERT INTO w SELECT " + values[i] + " FROM t");
             Probe.each(8, "SELECT " + values[i] + " FROM t");
         }
         // Not the columns of FROM are meant, but the items.
@@ -423,14 +452,17 @@ public final class EdgesOfErrorsTest {
     }
 
     private static void starTypes() {
-        Probe.each(5, "INSERT INTO t SELECT * FROM t", "INSERT INTO v SELECT * FROM v", "INSERT INTO u SELECT * FROM u, w",
+        Probe.each(5, "INSERT INTO t SELECT * FROM t", "INSERT INTO v SELECT * FROM v",
+            "INSERT INTO u SELECT * FROM u, w",
             "INSERT INTO w SELECT * FROM w");
-        Probe.each(-8, "INSERT INTO t SELECT * FROM v, u", "INSERT INTO v SELECT * FROM u, w, u p", "INSERT INTO t SELECT * FROM v, v p",
+        Probe.each(-8, "INSERT INTO t SELECT * FROM v, u", "INSERT INTO v SELECT * FROM u, w, u p",
+            "INSERT INTO t SELECT * FROM v, v p",
             "INSERT INTO v SELECT * FROM u, t", "INSERT INTO t SELECT * FROM u, v, w");
         // * stands before WHERE and GROUP BY, and behind the last column nothing is needed.
         Probe.each(-8, "INSERT INTO v SELECT * FROM u, t WHERE z", "INSERT INTO v SELECT * FROM u, t GROUP BY z");
         Probe.each(-6, "INSERT INTO v SELECT * FROM v WHERE z", "INSERT INTO u SELECT * FROM t WHERE z");
-        Probe.each(-1, "INSERT INTO u SELECT * FROM t", "INSERT INTO w SELECT * FROM t", "INSERT INTO t SELECT * FROM v");
+        Probe.each(-1, "INSERT INTO u SELECT * FROM t", "INSERT INTO w SELECT * FROM t",
+            "INSERT INTO t SELECT * FROM v");
     }
 
     private static void setTypes() {
@@ -438,7 +470,8 @@ public final class EdgesOfErrorsTest {
         for (int i = 0; i < 4; i++) {
             Probe.each(fits(i, 1) ? 6 : -8, "UPDATE t SET a = " + values[i]);
             Probe.each(fits(i, 2) ? 6 : -8, "UPDATE t SET b = " + values[i]);
-            Probe.each(fits(i, 3) ? 6 : -8, "UPDATE t SET c = " + values[i], "UPDATE t SET a = 1, b = 'x', c = " + values[i]);
+            Probe.each(fits(i, 3) ? 6 : -8, "UPDATE t SET c = " + values[i],
+                "UPDATE t SET a = 1, b = 'x', c = " + values[i]);
         }
         Probe.each(-8, "UPDATE t SET a = b", "UPDATE t SET b = a", "UPDATE t SET c = a + 1", "UPDATE t SET a = a = 1");
     }
@@ -519,8 +552,10 @@ public final class EdgesOfErrorsTest {
             typed("SELECT $1 " + sign + " NULL, NULL " + sign + " $2 FROM t", "2 2");
             typed("SELECT $1 " + sign + " $2, $3 " + sign + " $3 FROM t", "2 2 2");
             typed("SELECT -$1, $1 " + sign + " $2, $3 " + sign + " $1 FROM t", "1 1 1");
-            Probe.each(-8, "PREPARE p AS SELECT $1 " + sign + " NULL, -$1 FROM t", "PREPARE p AS SELECT $1 " + sign + " $2, -$1 FROM t",
-                "PREPARE p AS SELECT $1 " + sign + " $2, -$2 FROM t", "PREPARE p AS SELECT $1 " + sign + " $1 AND $1 FROM t");
+            Probe.each(-8, "PREPARE p AS SELECT $1 " + sign + " NULL, -$1 FROM t",
+                "PREPARE p AS SELECT $1 " + sign + " $2, -$1 FROM t",
+                "PREPARE p AS SELECT $1 " + sign + " $2, -$2 FROM t",
+                "PREPARE p AS SELECT $1 " + sign + " $1 AND $1 FROM t");
         }
         typed("SELECT $1 BETWEEN $2 AND $3, $4 IN ($5, $6), $7 IN (NULL) FROM t", "2 2 2 2 2 2 2");
     }
@@ -533,11 +568,15 @@ public final class EdgesOfErrorsTest {
 
     private static void behindAllColumns() {
         // There is one value too many, which is 1, but only if no type is wrong before that.
-        Probe.each(-1, "PREPARE p AS INSERT INTO u VALUES (1, $1)", "PREPARE p AS INSERT INTO v VALUES (1, 'x', $1), (1, $1)",
-            "PREPARE p AS INSERT INTO v SELECT 1, 'x', $1 FROM t WHERE $1 = 'x'", "PREPARE p AS INSERT INTO w VALUES ($1)",
+        Probe.each(-1, "PREPARE p AS INSERT INTO u VALUES (1, $1)",
+            "PREPARE p AS INSERT INTO v VALUES (1, 'x', $1), (1, $1)",
+            "PREPARE p AS INSERT INTO v SELECT 1, 'x', $1 FROM t WHERE $1 = 'x'",
+            "PREPARE p AS INSERT INTO w VALUES ($1)",
             "PREPARE p AS INSERT INTO u VALUES (1, $1 || 'x', $1)");
-        Probe.each(-8, "PREPARE p AS INSERT INTO u VALUES (1, $1), ($1)", "PREPARE p AS INSERT INTO u SELECT 1, $1 FROM t WHERE $1 = 1",
-            "PREPARE p AS INSERT INTO w SELECT $1 FROM t WHERE $1", "PREPARE p AS INSERT INTO u VALUES (1, $1, $1 + 1)");
+        Probe.each(-8, "PREPARE p AS INSERT INTO u VALUES (1, $1), ($1)",
+            "PREPARE p AS INSERT INTO u SELECT 1, $1 FROM t WHERE $1 = 1",
+            "PREPARE p AS INSERT INTO w SELECT $1 FROM t WHERE $1",
+            "PREPARE p AS INSERT INTO u VALUES (1, $1, $1 + 1)");
     }
 
     private static void wideStar() {
@@ -547,9 +586,11 @@ public final class EdgesOfErrorsTest {
         probe.make("w", "");
         probe.reads(8, "SELECT * FROM x", "SELECT * FROM x, w");
         Probe.due("eight items", probe.reader.count(1), 8);
-        probe.reads(-3, "SELECT * FROM x, y", "SELECT * FROM y, x", "SELECT * FROM x p, x q, x r", "INSERT INTO x SELECT * FROM x, y",
+        probe.reads(-3, "SELECT * FROM x, y", "SELECT * FROM y, x", "SELECT * FROM x p, x q, x r",
+            "INSERT INTO x SELECT * FROM x, y",
             "SELECT * FROM x, y ORDER BY 9", "SELECT * FROM x, y FOR UPDATE", "SELECT * FROM x, y GROUP BY a",
             "PREPARE p AS SELECT * FROM x, y");
+        probe.reads(-3, "SELECT * FROM x, y WHERE " + truth(200));
         Probe seven = new Probe();
         seven.make("x", EIGHT.substring(0, 20));
         seven.make("y", "i1");
@@ -559,10 +600,13 @@ public final class EdgesOfErrorsTest {
     }
 
     private static void manyNodesWithStar() {
-        Probe.each(8, "SELECT * FROM t WHERE " + truth(197), "SELECT * FROM u WHERE " + truth(199), "SELECT * FROM w WHERE " + truth(200));
+        Probe.each(8, "SELECT * FROM t WHERE " + truth(197), "SELECT * FROM u WHERE " + truth(199),
+            "SELECT * FROM w WHERE " + truth(200));
         Probe.each(-2, "SELECT * FROM t WHERE " + truth(198), "SELECT * FROM u WHERE " + truth(200),
-            "SELECT * FROM t WHERE " + truth(198) + " ORDER BY 9", "SELECT * FROM t WHERE " + truth(198) + " GROUP BY a",
-            "INSERT INTO u SELECT * FROM t WHERE " + truth(198), "SELECT DISTINCT * FROM t WHERE " + truth(200) + " FOR SHARE");
+            "SELECT * FROM t WHERE " + truth(198) + " ORDER BY 9",
+            "SELECT * FROM t WHERE " + truth(198) + " GROUP BY a",
+            "INSERT INTO u SELECT * FROM t WHERE " + truth(198),
+            "SELECT DISTINCT * FROM t WHERE " + truth(200) + " FOR SHARE");
         Probe probe = new Probe();
         probe.make("x", EIGHT);
         probe.reads(8, "SELECT * FROM x WHERE " + truth(192));
@@ -573,7 +617,8 @@ public final class EdgesOfErrorsTest {
     }
 
     private static void rowSize() {
-        Probe.each(4, "INSERT INTO u VALUES (1)", "INSERT INTO t VALUES (1, 'x', TRUE)", "INSERT INTO v VALUES (1, 'x'), (2, 'y')");
+        Probe.each(4, "INSERT INTO u VALUES (1)", "INSERT INTO t VALUES (1, 'x', TRUE)",
+            "INSERT INTO v VALUES (1, 'x'), (2, 'y')");
         Probe.each(-1, "INSERT INTO u VALUES (1, 2)", "INSERT INTO t VALUES (1)", "INSERT INTO t VALUES (1, 'x')",
             "INSERT INTO t VALUES (1, 'x', TRUE, 1)", "INSERT INTO w VALUES (1)", "INSERT INTO v VALUES (1, 'x'), (2)",
             "INSERT INTO v VALUES (1), (2, 'y')", "INSERT INTO v VALUES (1, 'x'), (2, 'y'), (3, 'z', 4)",
@@ -585,17 +630,21 @@ public final class EdgesOfErrorsTest {
     }
 
     private static void itemsSize() {
-        Probe.each(5, "INSERT INTO u SELECT 1 FROM t", "INSERT INTO t SELECT a, b, c FROM t", "INSERT INTO t SELECT * FROM t",
+        Probe.each(5, "INSERT INTO u SELECT 1 FROM t", "INSERT INTO t SELECT a, b, c FROM t",
+            "INSERT INTO t SELECT * FROM t",
             "INSERT INTO w SELECT * FROM w", "INSERT INTO t SELECT * FROM w, t");
-        Probe.each(-1, "INSERT INTO u SELECT 1, 2 FROM t", "INSERT INTO t SELECT a, b FROM t", "INSERT INTO t SELECT a, b, c, a FROM t",
-            "INSERT INTO w SELECT 1 FROM t", "INSERT INTO t SELECT * FROM w", "INSERT INTO t SELECT * FROM u", "INSERT INTO u SELECT * FROM v",
+        Probe.each(-1, "INSERT INTO u SELECT 1, 2 FROM t", "INSERT INTO t SELECT a, b FROM t",
+            "INSERT INTO t SELECT a, b, c, a FROM t",
+            "INSERT INTO w SELECT 1 FROM t", "INSERT INTO t SELECT * FROM w", "INSERT INTO t SELECT * FROM u",
+            "INSERT INTO u SELECT * FROM v",
             "INSERT INTO t SELECT * FROM t, u", "INSERT INTO w SELECT * FROM u");
         Probe.each(8, "SELECT 1, 2 FROM u");
     }
 
     private static void setTwice() {
         Probe.each(6, "UPDATE t SET a = 1, b = 'x', c = TRUE");
-        Probe.each(-1, "UPDATE t SET a = 1, a = 1", "UPDATE t SET a = 1, b = 'x', a = 2", "UPDATE t SET b = 'x', c = TRUE, c = FALSE",
+        Probe.each(-1, "UPDATE t SET a = 1, a = 1", "UPDATE t SET a = 1, b = 'x', a = 2",
+            "UPDATE t SET b = 'x', c = TRUE, c = FALSE",
             "PREPARE p AS UPDATE t SET a = 1, a = 2", "UPDATE t SET a = a, a = a");
         Probe.each(-8, "UPDATE t SET a = 1, a = 'x'", "UPDATE t SET a = 1, a = 2 WHERE 1");
         Probe.each(-6, "UPDATE t SET z = 1, z = 2");
@@ -606,25 +655,34 @@ public final class EdgesOfErrorsTest {
             "SELECT a,a,a,a,a,a,a,a FROM t ORDER BY 8", "SELECT a FROM t ORDER BY 000000000000000001 DESC");
         Probe.each(-1, "SELECT a FROM t ORDER BY 0", "SELECT a FROM t ORDER BY 0 DESC", "SELECT a FROM t ORDER BY 2",
             "SELECT a, b FROM t ORDER BY 3", "SELECT a, b FROM t ORDER BY 1, 2, 3 DESC", "SELECT * FROM t ORDER BY 4",
-            "SELECT * FROM w ORDER BY 1", "SELECT a,a,a,a,a,a,a,a FROM t ORDER BY 9", "SELECT a,a,a,a,a,a,a,a FROM t ORDER BY 10",
+            "SELECT * FROM w ORDER BY 1", "SELECT a,a,a,a,a,a,a,a FROM t ORDER BY 9",
+            "SELECT a,a,a,a,a,a,a,a FROM t ORDER BY 10",
             "INSERT INTO u SELECT a FROM t ORDER BY 2");
         // Numbers that would be 1 or 0 if only their lowest 8, 16 or 32 bits counted.
-        Probe.each(-1, "SELECT a FROM t ORDER BY 257", "SELECT a FROM t ORDER BY 65537", "SELECT a FROM t ORDER BY 4294967297",
-            "SELECT a FROM t ORDER BY 2147483648", "SELECT a FROM t ORDER BY 2147483649", "SELECT a FROM t ORDER BY 999999999999999999");
+        Probe.each(-1, "SELECT a FROM t ORDER BY 257", "SELECT a FROM t ORDER BY 65537",
+            "SELECT a FROM t ORDER BY 4294967297",
+            "SELECT a FROM t ORDER BY 2147483648", "SELECT a FROM t ORDER BY 2147483649",
+            "SELECT a FROM t ORDER BY 999999999999999999");
     }
 
     private static void unprepared() {
-        Probe.each(-1, "SELECT $1 FROM t", "SELECT a FROM t WHERE $1", "SELECT a FROM t WHERE a = $9", "INSERT INTO u VALUES ($1)",
-            "INSERT INTO u SELECT $1 FROM t", "UPDATE t SET a = $1", "UPDATE t SET a = 1 WHERE $1", "DELETE FROM t WHERE $1",
+        Probe.each(-1, "SELECT $1 FROM t", "SELECT a FROM t WHERE $1", "SELECT a FROM t WHERE a = $9",
+            "INSERT INTO u VALUES ($1)",
+            "INSERT INTO u SELECT $1 FROM t", "UPDATE t SET a = $1", "UPDATE t SET a = 1 WHERE $1",
+            "DELETE FROM t WHERE $1",
             "EXECUTE p ($1)", "EXECUTE p (1, $2 + 1)");
-        Probe.each(16, "PREPARE p AS SELECT $1 FROM t", "PREPARE p AS SELECT a FROM t WHERE $9", "PREPARE p AS INSERT INTO u VALUES ($1)",
-            "PREPARE p AS INSERT INTO u SELECT $1 FROM t", "PREPARE p AS UPDATE t SET a = $1 WHERE $2", "PREPARE p AS DELETE FROM t WHERE $1");
+        Probe.each(16, "PREPARE p AS SELECT $1 FROM t", "PREPARE p AS SELECT a FROM t WHERE $9",
+            "PREPARE p AS INSERT INTO u VALUES ($1)",
+            "PREPARE p AS INSERT INTO u SELECT $1 FROM t", "PREPARE p AS UPDATE t SET a = $1 WHERE $2",
+            "PREPARE p AS DELETE FROM t WHERE $1");
         Probe.each(-8, "SELECT -$1, NOT $1 FROM t");
     }
 
     private static void columnsTwice() {
-        Probe.each(1, "CREATE TABLE x (a INT, b INT)", "CREATE TABLE x (x INT)", "CREATE TABLE x (a INT, aa INT, ab INT)");
-        Probe.each(-1, "CREATE TABLE x (a INT, a INT)", "CREATE TABLE x (a INT, b INT, a TEXT)", "CREATE TABLE x (a INT, b INT, b INT)",
+        Probe.each(1, "CREATE TABLE x (a INT, b INT)", "CREATE TABLE x (x INT)",
+            "CREATE TABLE x (a INT, aa INT, ab INT)");
+        Probe.each(-1, "CREATE TABLE x (a INT, a INT)", "CREATE TABLE x (a INT, b INT, a TEXT)",
+            "CREATE TABLE x (a INT, b INT, b INT)",
             "CREATE TABLE x (a INT,b INT,c INT,d INT,e INT,f INT,g INT,a INT)",
             "CREATE TABLE x (a INT,b INT,c INT,d INT,e INT,f INT,g INT,g INT)");
     }
@@ -634,7 +692,8 @@ public final class EdgesOfErrorsTest {
         for (String outer : names) {
             Probe.each(-9, "SELECT " + outer + "(COUNT(*)) FROM t", "SELECT " + outer + "(1 + -COUNT(*)) FROM t");
             for (String inner : names) {
-                Probe.each(-9, "SELECT " + outer + "(" + inner + "(a)) FROM t", "SELECT 1, " + outer + "(1 + " + inner + "(a)) FROM t");
+                Probe.each(-9, "SELECT " + outer + "(" + inner + "(a)) FROM t",
+                    "SELECT 1, " + outer + "(1 + " + inner + "(a)) FROM t");
                 Probe.each(8, "SELECT " + outer + "(a) + " + inner + "(a) FROM t");
             }
         }
@@ -643,31 +702,39 @@ public final class EdgesOfErrorsTest {
     }
 
     private static void aggregateBeside() {
-        Probe.each(-9, "SELECT COUNT(*), a FROM t", "SELECT a, COUNT(*) FROM t", "SELECT a + COUNT(*) FROM t", "SELECT SUM(a) + a FROM t",
+        Probe.each(-9, "SELECT COUNT(*), a FROM t", "SELECT a, COUNT(*) FROM t", "SELECT a + COUNT(*) FROM t",
+            "SELECT SUM(a) + a FROM t",
             "SELECT MIN(a), 1, b FROM t", "SELECT MAX(a) IN (1, a) FROM t", "INSERT INTO v SELECT COUNT(*), b FROM t");
-        Probe.each(8, "SELECT COUNT(*) FROM t", "SELECT COUNT(*), 1, 'x', NULL FROM t", "SELECT SUM(a + 1), MIN(b) FROM t",
+        Probe.each(8, "SELECT COUNT(*) FROM t", "SELECT COUNT(*), 1, 'x', NULL FROM t",
+            "SELECT SUM(a + 1), MIN(b) FROM t",
             "SELECT COUNT(*) FROM t WHERE c", "SELECT a FROM t");
     }
 
     private static void notGrouped() {
         Probe.each(-9, "SELECT a FROM t GROUP BY b", "SELECT a, b FROM t GROUP BY a", "SELECT a + 1 FROM t GROUP BY b",
-            "SELECT * FROM t GROUP BY a, b", "SELECT * FROM t GROUP BY b, c", "SELECT * FROM t GROUP BY a, c", "SELECT SUM(a), b FROM t GROUP BY a", "INSERT INTO u SELECT a FROM t GROUP BY b",
+            "SELECT * FROM t GROUP BY a, b", "SELECT * FROM t GROUP BY b, c", "SELECT * FROM t GROUP BY a, c",
+            "SELECT SUM(a), b FROM t GROUP BY a", "INSERT INTO u SELECT a FROM t GROUP BY b",
             "SELECT a IN (1) FROM t GROUP BY c");
-        Probe.each(8, "SELECT a FROM t GROUP BY a", "SELECT b, a FROM t GROUP BY a, b", "SELECT a + 1 FROM t GROUP BY a",
+        Probe.each(8, "SELECT a FROM t GROUP BY a", "SELECT b, a FROM t GROUP BY a, b",
+            "SELECT a + 1 FROM t GROUP BY a",
             "SELECT * FROM t GROUP BY c, a, b", "SELECT SUM(a), b FROM t GROUP BY b", "SELECT 1 FROM t GROUP BY a",
             "SELECT COUNT(a) FROM t GROUP BY b", "SELECT a FROM t WHERE c GROUP BY a", "SELECT * FROM w, u GROUP BY a");
     }
 
     private static void sameColumn() {
-        Probe.each(8, "SELECT t.a FROM t GROUP BY a", "SELECT a FROM t GROUP BY t.a", "SELECT u.a FROM t, u GROUP BY t.a, u.a",
+        Probe.each(8, "SELECT t.a FROM t GROUP BY a", "SELECT a FROM t GROUP BY t.a",
+            "SELECT u.a FROM t, u GROUP BY t.a, u.a",
             "SELECT p.a FROM t p, t q GROUP BY p.a", "SELECT q.b FROM t p, t q GROUP BY q.a, q.b");
-        Probe.each(-9, "SELECT t.a FROM t, u GROUP BY u.a", "SELECT p.a FROM t p, t q GROUP BY q.a", "SELECT q.b FROM t p, t q GROUP BY q.a, p.b",
+        Probe.each(-9, "SELECT t.a FROM t, u GROUP BY u.a", "SELECT p.a FROM t p, t q GROUP BY q.a",
+            "SELECT q.b FROM t p, t q GROUP BY q.a, p.b",
             "SELECT u.a FROM t, u GROUP BY t.a, t.b", "SELECT d FROM u, v GROUP BY a", "SELECT a FROM u, v GROUP BY d");
     }
 
     private static void forTables() {
-        Probe.each(8, "SELECT a FROM t FOR UPDATE", "SELECT a FROM t FOR SHARE", "SELECT t.a FROM t, u", "SELECT a FROM t p FOR SHARE");
-        Probe.each(-10, "SELECT t.a FROM t, u FOR UPDATE", "SELECT t.a FROM t, u, v FOR SHARE", "SELECT 1 FROM t, w FOR SHARE");
+        Probe.each(8, "SELECT a FROM t FOR UPDATE", "SELECT a FROM t FOR SHARE", "SELECT t.a FROM t, u",
+            "SELECT a FROM t p FOR SHARE");
+        Probe.each(-10, "SELECT t.a FROM t, u FOR UPDATE", "SELECT t.a FROM t, u, v FOR SHARE",
+            "SELECT 1 FROM t, w FOR SHARE");
     }
 
     private static void forDistinct() {
@@ -684,7 +751,8 @@ public final class EdgesOfErrorsTest {
         String[] aggregates = {"COUNT(*)", "COUNT(a)", "SUM(a)", "MIN(a)", "MAX(a)", "1 + COUNT(*)"};
         for (String aggregate : aggregates) {
             Probe.each(8, "SELECT " + aggregate + " FROM t");
-            Probe.each(-10, "SELECT " + aggregate + " FROM t FOR UPDATE", "SELECT 1, " + aggregate + " FROM t FOR SHARE");
+            Probe.each(-10, "SELECT " + aggregate + " FROM t FOR UPDATE",
+                "SELECT 1, " + aggregate + " FROM t FOR SHARE");
         }
     }
 
@@ -697,12 +765,16 @@ public final class EdgesOfErrorsTest {
 
     /** An error of an earlier time counts, though one of a later time stands before it in the text. */
     private static void fourTimes() {
-        Probe.each(-4, "SELECT z FROM zz", "SELECT -b FROM t, zz", "UPDATE zz SET a = 'x' + 1", "SELECT a, COUNT(*) FROM zz FOR SHARE");
+        Probe.each(-4, "SELECT z FROM zz", "SELECT -b FROM t, zz", "UPDATE zz SET a = 'x' + 1",
+            "SELECT a, COUNT(*) FROM zz FOR SHARE");
         Probe.each(-5, "SELECT z FROM t, t", "SELECT -b FROM t, t ORDER BY 9", "SELECT DISTINCT 1 FROM t, t FOR SHARE");
-        Probe.each(-6, "SELECT $1 FROM t WHERE z", "SELECT COUNT(COUNT(*)) FROM t WHERE z", "INSERT INTO t VALUES (1), (z)",
+        Probe.each(-6, "SELECT $1 FROM t WHERE z", "SELECT COUNT(COUNT(*)) FROM t WHERE z",
+            "INSERT INTO t VALUES (1), (z)",
             "UPDATE t SET a = 1, a = 2, z = 3", "SELECT a FROM t GROUP BY z");
-        Probe.each(-8, "SELECT $1 FROM t WHERE a", "INSERT INTO u VALUES (1, 2), ('x')", "SELECT a, COUNT(*) FROM t WHERE b");
-        Probe.each(-1, "SELECT a, COUNT(*) FROM t ORDER BY 3", "SELECT COUNT(COUNT(*)) FROM t ORDER BY 2", "SELECT DISTINCT $1 FROM t FOR SHARE",
+        Probe.each(-8, "SELECT $1 FROM t WHERE a", "SELECT -b FROM t ORDER BY 9", "INSERT INTO u VALUES (1, 2), ('x')",
+            "SELECT a, COUNT(*) FROM t WHERE b");
+        Probe.each(-1, "SELECT a, COUNT(*) FROM t ORDER BY 3", "SELECT COUNT(COUNT(*)) FROM t ORDER BY 2",
+            "SELECT DISTINCT $1 FROM t FOR SHARE",
             "INSERT INTO t SELECT a FROM t GROUP BY b FOR SHARE");
         Probe.each(-9, "SELECT DISTINCT a FROM t GROUP BY b FOR SHARE", "SELECT a, COUNT(*) FROM t FOR UPDATE");
     }

@@ -47,7 +47,8 @@ public final class EdgesOfTermsTest {
     }
 
     private static void expressions(Edges edges) {
-        edges.sentence("E, from what binds least: OR; AND; NOT before; .. *, / and %; - before", EdgesOfTermsTest::binding);
+        edges.sentence("E, from what binds least: OR; AND; NOT before; .. *, / and %; - before",
+            EdgesOfTermsTest::binding);
         edges.sentence("one COMPARISON", EdgesOfTermsTest::oneComparison);
         edges.sentence("whose sides, x and y among them, are of what binds more", EdgesOfTermsTest::sides);
         edges.sentence("of two operands each from the left", EdgesOfTermsTest::fromTheLeft);
@@ -61,7 +62,8 @@ public final class EdgesOfTermsTest {
     private static void nodes(Edges edges) {
         edges.sentence("NODES are numbered from 0 as they are made", EdgesOfTermsTest::nodeNumbers);
         edges.sentence("their kinds: 0 NULL, .. 28 parameter", EdgesOfTermsTest::nodeKinds);
-        edges.sentence("x BETWEEN a AND b is x, a, >=, x again (its nodes anew), b, <=, AND", EdgesOfTermsTest::between);
+        edges.sentence("x BETWEEN a AND b is x, a, >=, x again (its nodes anew), b, <=, AND",
+            EdgesOfTermsTest::between);
         edges.sentence("x IN (a, b, ..) is x, a, =, x again, b, =, OR, ..", EdgesOfTermsTest::among);
         edges.sentence("with NOT there is NOT behind that", EdgesOfTermsTest::notBehind);
         edges.sentence("those of * behind all others", EdgesOfTermsTest::starBehind);
@@ -336,7 +338,8 @@ public final class EdgesOfTermsTest {
         probe.reads(-6, "SELECT a1 FROM t", "SELECT a_ FROM t", "SELECT ab FROM t", "SELECT a1b FROM t");
         probe.reads(-4, "SELECT a FROM tu", "SELECT a FROM t1", "SELECT a FROM t_u");
         probe.reads(-1, "SELECTA FROM t", "SELECTDISTINCT a FROM t", "SELECT a FROMT t", "COMMITCOMMIT",
-            "SELECT 1a FROM t", "SELECT 1_ FROM t", "SELECT 1 2 FROM t", "SELECT 'a' 'b' FROM t", "SELECT a <> = 1 FROM t");
+            "SELECT 1a FROM t", "SELECT 1_ FROM t", "SELECT 1 2 FROM t", "SELECT 'a' 'b' FROM t",
+            "SELECT a <> = 1 FROM t");
         probe.reads(8, "SELECT a FROM t u1", "SELECT NOT(c)AND(c)OR(c)FROM t");
     }
 
@@ -424,7 +427,8 @@ public final class EdgesOfTermsTest {
             Probe.each(-1, starts[i] + ends[i], starts[i] + ones[i] + "," + ends[i],
                 starts[i] + "," + ones[i] + ends[i], starts[i] + ones[i] + ",," + twos[i] + ends[i]);
         }
-        Probe.each(4, "INSERT INTO u VALUES (1)" + ",(1)".repeat(199), "INSERT INTO t VALUES (1,'x',TRUE),(2,'y',FALSE)");
+        Probe.each(4, "INSERT INTO u VALUES (1)" + ",(1)".repeat(199),
+            "INSERT INTO t VALUES (1,'x',TRUE),(2,'y',FALSE)");
         Probe.each(17, "EXECUTE p (1" + ",1".repeat(199) + ")");
         Probe.each(8, "SELECT 1 IN (1" + ",1".repeat(49) + ") FROM t");
     }
@@ -500,7 +504,8 @@ public final class EdgesOfTermsTest {
             "SELECT a BETWEEN 1 AND NOT c FROM t", "SELECT a BETWEEN 1 FROM t", "SELECT a BETWEEN 1 OR 2 FROM t",
             "SELECT a BETWEEN 1 = 1 AND 2 FROM t", "SELECT a BETWEEN 1 AND 2 = 2 FROM t", "SELECT 1 + NOT c FROM t",
             "SELECT -NOT c FROM t", "SELECT b || NOT c FROM t", "SELECT a * NOT c FROM t");
-        Probe.withTables().shows("SELECT a BETWEEN 1 AND 2 AND c FROM t", "0.0 1 22(0,1) 0.0 2 20(3,4) 26(2,5) 0.2 26(6,7)");
+        Probe.withTables().shows("SELECT a BETWEEN 1 AND 2 AND c FROM t",
+            "0.0 1 22(0,1) 0.0 2 20(3,4) 26(2,5) 0.2 26(6,7)");
         Probe.withTables().shows("SELECT c = c OR c FROM t", "0.2 0.2 17(0,1) 0.2 27(2,3)");
     }
 
@@ -569,9 +574,11 @@ public final class EdgesOfTermsTest {
         Probe.each(-9, "SELECT " + deep("COUNT(", "a", ")", 20) + " FROM t");
         Probe.each(-1, "SELECT " + deep("COUNT(", "a", ")", 21) + " FROM t");
         Probe.each(8, "SELECT a IN (" + deep("(", "1", ")", 19) + ", " + deep("(", "1", ")", 19) + ") FROM t",
-            "SELECT " + deep("c IN (", "c", ")", 20) + " FROM t", "SELECT (" + deep("(", "a", ")", 19) + ") IN (1) FROM t");
+            "SELECT " + deep("c IN (", "c", ")", 20) + " FROM t", "SELECT (" + deep("(", "a", ")",
+            19) + ") IN (1) FROM t");
         Probe.each(-1, "SELECT a IN (" + deep("(", "1", ")", 20) + ") FROM t",
-            "SELECT a IN (1, " + deep("(", "1", ")", 20) + ") FROM t", "SELECT " + deep("c IN (", "c", ")", 21) + " FROM t");
+            "SELECT a IN (1, " + deep("(", "1", ")", 20) + ") FROM t", "SELECT " + deep("c IN (", "c", ")",
+            21) + " FROM t");
     }
 
     private static void signsBefore() {
@@ -580,11 +587,16 @@ public final class EdgesOfTermsTest {
         everywhere(true, deep("-(", "a", ")", 10), deep("NOT (", "c", ")", 10));
         everywhere(false, "-" + deep("-(", "a", ")", 10), "NOT " + deep("NOT (", "c", ")", 10));
         everywhere(false, "(" + deep("-(", "a", ")", 10) + ")", "(" + deep("NOT (", "c", ")", 10) + ")");
-        Probe.each(8, "SELECT " + deep("(", "-a", ")", 19) + " FROM t", "SELECT " + deep("(", "NOT c", ")", 19) + " FROM t",
-            "SELECT COUNT(" + deep("-", "a", "", 19) + ") FROM t", "SELECT a IN (" + deep("-", "1", "", 19) + ") FROM t",
-            "SELECT " + deep("NOT ", "-a = 1", "", 19) + " FROM t", "SELECT " + deep("NOT ", "a = 1", "", 20) + " FROM t");
-        Probe.each(-1, "SELECT " + deep("(", "-a", ")", 20) + " FROM t", "SELECT " + deep("(", "NOT c", ")", 20) + " FROM t",
-            "SELECT COUNT(" + deep("-", "a", "", 20) + ") FROM t", "SELECT a IN (" + deep("-", "1", "", 20) + ") FROM t",
+        Probe.each(8, "SELECT " + deep("(", "-a", ")", 19) + " FROM t", "SELECT " + deep("(", "NOT c", ")",
+            19) + " FROM t",
+            "SELECT COUNT(" + deep("-", "a", "", 19) + ") FROM t", "SELECT a IN (" + deep("-", "1", "",
+            19) + ") FROM t",
+            "SELECT " + deep("NOT ", "-a = 1", "", 19) + " FROM t", "SELECT " + deep("NOT ", "a = 1", "",
+            20) + " FROM t");
+        Probe.each(-1, "SELECT " + deep("(", "-a", ")", 20) + " FROM t", "SELECT " + deep("(", "NOT c", ")",
+            20) + " FROM t",
+            "SELECT COUNT(" + deep("-", "a", "", 20) + ") FROM t", "SELECT a IN (" + deep("-", "1", "",
+            20) + ") FROM t",
             "SELECT " + deep("NOT ", "-a = 1", "", 20) + " FROM t", "SELECT " + deep("-", "a", "", 900) + " FROM t",
             "SELECT " + deep("NOT ", "a = -1", "", 20) + " FROM t", "SELECT " + deep("NOT ", "c", "", 450) + " FROM t");
     }
@@ -597,8 +609,10 @@ public final class EdgesOfTermsTest {
             "SELECT " + deep("(", "a IS NOT NULL", ")", 20) + " FROM t",
             "SELECT " + deep("(", "a NOT BETWEEN 1 AND 2", ")", 20) + " FROM t",
             "SELECT " + deep("(", "a BETWEEN 1 AND 2", ")", 20) + " FROM t",
-            "SELECT NOT c AND " + deep("(", "c", ")", 20) + " FROM t", "SELECT -a + " + deep("(", "a", ")", 20) + " FROM t",
-            "SELECT " + deep("(", "a", ")", 20) + " IN (1) FROM t", "SELECT COUNT(a) + " + deep("(", "1", ")", 20) + " FROM t");
+            "SELECT NOT c AND " + deep("(", "c", ")", 20) + " FROM t", "SELECT -a + " + deep("(", "a", ")",
+            20) + " FROM t",
+            "SELECT " + deep("(", "a", ")", 20) + " IN (1) FROM t", "SELECT COUNT(a) + " + deep("(", "1", ")",
+            20) + " FROM t");
         Probe.each(-1, "SELECT " + deep("(", "COUNT(*)", ")", 21) + " FROM t");
     }
 
@@ -623,8 +637,10 @@ public final class EdgesOfTermsTest {
     }
 
     private static void nodeKinds() {
-        String[] items = {"NULL", "1", "'x'", "TRUE", "a", "COUNT(*)", "COUNT(1)", "SUM(1)", "MIN(1)", "MAX(1)", "-1", "1 + 1",
-            "1 - 1", "1 * 1", "1 / 1", "1 % 1", "'x' || 'x'", "1 = 1", "1 <> 1", "1 < 1", "1 <= 1", "1 > 1", "1 >= 1", "1 IS NULL",
+        String[] items = {"NULL", "1", "'x'", "TRUE", "a", "COUNT(*)", "COUNT(1)", "SUM(1)", "MIN(1)", "MAX(1)", "-1",
+            "1 + 1",
+            "1 - 1", "1 * 1", "1 / 1", "1 % 1", "'x' || 'x'", "1 = 1", "1 <> 1", "1 < 1", "1 <= 1", "1 > 1", "1 >= 1",
+            "1 IS NULL",
             "1 IS NOT NULL", "NOT TRUE", "TRUE AND TRUE", "TRUE OR TRUE", "$1"};
         for (int kind = 0; kind < items.length; kind++) {
             Probe probe = Probe.withTables();
@@ -638,8 +654,10 @@ public final class EdgesOfTermsTest {
         probe.shows("SELECT a BETWEEN 1 AND 2 FROM t", "0.0 1 22(0,1) 0.0 2 20(3,4) 26(2,5)");
         probe.shows("SELECT -(a + 3) BETWEEN -1 AND 1 + 2 FROM t", "0.0 3 11(0,1) 10(2) 1 10(4) 22(3,5) "
             + "0.0 3 11(7,8) 10(9) 1 2 11(11,12) 20(10,13) 26(6,14)");
-        probe.shows("SELECT 7, a + 3 BETWEEN 1 AND 2 FROM t", "7 0.0 3 11(1,2) 1 22(3,4) 0.0 3 11(6,7) 2 20(8,9) 26(5,10)");
-        probe.shows("SELECT c AND -a BETWEEN 1 AND 2 FROM t", "0.2 0.0 10(1) 1 22(2,3) 0.0 10(5) 2 20(6,7) 26(4,8) 26(0,9)");
+        probe.shows("SELECT 7, a + 3 BETWEEN 1 AND 2 FROM t",
+            "7 0.0 3 11(1,2) 1 22(3,4) 0.0 3 11(6,7) 2 20(8,9) 26(5,10)");
+        probe.shows("SELECT c AND -a BETWEEN 1 AND 2 FROM t",
+            "0.2 0.0 10(1) 1 22(2,3) 0.0 10(5) 2 20(6,7) 26(4,8) 26(0,9)");
         // x of 97 nodes: 97 + 2 + 97 + 2 and AND are 199, and x of one - more is over 200
         String x = "1" + "+1".repeat(48);
         Probe.each(8, "SELECT " + x + " BETWEEN 1 AND 2 FROM t");
@@ -654,11 +672,14 @@ public final class EdgesOfTermsTest {
         probe.shows("SELECT a IN (1, 2) FROM t", "0.0 1 17(0,1) 0.0 2 17(3,4) 27(2,5)");
         probe.shows("SELECT a IN (1, 2, 3) FROM t", "0.0 1 17(0,1) 0.0 2 17(3,4) 27(2,5) 0.0 3 17(7,8) 27(6,9)");
         probe.shows("SELECT 7, -a IN (1, 2) FROM t", "7 0.0 10(1) 1 17(2,3) 0.0 10(5) 2 17(6,7) 27(4,8)");
-        probe.shows("SELECT c IN (TRUE, a + 3 IN (1, 2)) FROM t", "0.2 TRUE 17(0,1) 0.2 0.0 3 11(4,5) 1 17(6,7) 0.0 3 11(9,10) 2 "
+        probe.shows("SELECT c IN (TRUE, a + 3 IN (1, 2)) FROM t",
+            "0.2 TRUE 17(0,1) 0.2 0.0 3 11(4,5) 1 17(6,7) 0.0 3 11(9,10) 2 "
             + "17(11,12) 27(8,13) 17(3,14) 27(2,15)");
         // one value has 3 nodes, each more has 4: 50 values have 199
-        Probe.each(8, "SELECT a IN (1" + ",1".repeat(49) + ") FROM t", "SELECT a NOT IN (1" + ",1".repeat(49) + ") FROM t");
-        Probe.each(-2, "SELECT a IN (1" + ",1".repeat(50) + ") FROM t", "SELECT a IN (- -1" + ",1".repeat(49) + ") FROM t",
+        Probe.each(8, "SELECT a IN (1" + ",1".repeat(49) + ") FROM t",
+            "SELECT a NOT IN (1" + ",1".repeat(49) + ") FROM t");
+        Probe.each(-2, "SELECT a IN (1" + ",1".repeat(50) + ") FROM t",
+            "SELECT a IN (- -1" + ",1".repeat(49) + ") FROM t",
             "SELECT a NOT IN (-1" + ",1".repeat(49) + ") FROM t");
         Probe.each(-1, "SELECT a IN () FROM t");
     }

@@ -288,7 +288,8 @@ public final class Promise05ReadTest {
             "INSERT INTO t SELECT a, b, a FROM t", "INSERT INTO u SELECT b FROM t", "INSERT INTO v SELECT c, b FROM t",
             "INSERT INTO t SELECT * FROM v, t", "INSERT INTO v SELECT * FROM u, t", "UPDATE t SET a = 'x'",
             "UPDATE t SET b = 1", "UPDATE t SET c = a", "UPDATE t SET a = 1, b = b = b");
-        reads(5, "INSERT INTO t SELECT d, e, TRUE FROM u, v", "INSERT INTO v SELECT d + 1, NULL FROM v", "INSERT INTO u SELECT * FROM u");
+        reads(5, "INSERT INTO t SELECT d, e, TRUE FROM u, v", "INSERT INTO v SELECT d + 1, NULL FROM v",
+            "INSERT INTO u SELECT * FROM u");
         reads(4, "INSERT INTO t VALUES (NULL, NULL, NULL), (-1, 'x' || 'y', 1 = 2)");
         reads(6, "UPDATE t SET a = NULL, b = NULL, c = NULL", "UPDATE t SET c = a IN (1, 2)");
     }
@@ -323,7 +324,8 @@ public final class Promise05ReadTest {
     private static void groups() {
         reads(-9, "SELECT COUNT(COUNT(*)) FROM t", "SELECT SUM(MIN(a)) FROM t", "SELECT MAX(1 + SUM(a)) FROM t",
             "SELECT a, COUNT(*) FROM t", "SELECT COUNT(*), a FROM t", "SELECT a + SUM(a) FROM t",
-            "SELECT a FROM t GROUP BY b", "SELECT * FROM t GROUP BY a", "SELECT * FROM t GROUP BY b, c", "SELECT a + d FROM t, v GROUP BY a",
+            "SELECT a FROM t GROUP BY b", "SELECT * FROM t GROUP BY a", "SELECT * FROM t GROUP BY b, c",
+            "SELECT a + d FROM t, v GROUP BY a",
             "SELECT t.a FROM t, u GROUP BY u.a", "SELECT p.a FROM t p, t q GROUP BY q.a",
             "SELECT a, MIN(b) FROM t GROUP BY b", "INSERT INTO u SELECT a FROM t GROUP BY b",
             "SELECT u.a FROM t, u GROUP BY b, t.a",
@@ -350,7 +352,8 @@ public final class Promise05ReadTest {
     private static void theFirstErrorCounts() {
         reads(-4, "SELECT z FROM x", "SELECT a + b FROM t, x", "SELECT x.a, b + 1 FROM t");
         reads(-6, "SELECT z + b FROM t", "SELECT b + z FROM t", "SELECT z, x.a FROM t", "UPDATE t SET z = b + 1",
-            "UPDATE t SET a = 1, z = 'x' + 1", "UPDATE t SET a = 1, z = x.y", "SELECT 'x' || 1 + z FROM t", "SELECT z FROM t, u ORDER BY 9", "INSERT INTO u VALUES (z, 'x')");
+            "UPDATE t SET a = 1, z = 'x' + 1", "UPDATE t SET a = 1, z = x.y", "SELECT 'x' || 1 + z FROM t",
+            "SELECT z FROM t, u ORDER BY 9", "INSERT INTO u VALUES (z, 'x')");
         reads(-7, "SELECT a + b FROM t, u", "SELECT a + z FROM t, u");
         reads(-8, "SELECT b + 1, z FROM t", "SELECT b + 1 FROM t WHERE z", "UPDATE t SET a = 'x', z = 1",
             "INSERT INTO u SELECT b FROM t WHERE z", "INSERT INTO v SELECT * FROM u, t WHERE z = 1",
