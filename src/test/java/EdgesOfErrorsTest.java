@@ -531,6 +531,8 @@ public final class EdgesOfErrorsTest {
         typed("UPDATE t SET c = $1, b = $2, a = $3 WHERE $4", "3 2 1 3");
         typed("DELETE FROM t WHERE $1", "3");
         typed("SELECT -$1, $1, $1 IS NULL, COUNT($1), $2 = $1 FROM t", "1 1");
+        // It comes first before =, and what stands behind that is BOOL.
+        typed("SELECT $1 = ($1 IS NULL) FROM t", "3");
         Probe.each(-8, "PREPARE p AS SELECT -$1, $1 || 'x' FROM t", "PREPARE p AS SELECT $1, -$1 FROM t",
             "PREPARE p AS SELECT a FROM t WHERE $1 AND $1 = 1", "PREPARE p AS UPDATE t SET a = $1, b = $1",
             "PREPARE p AS INSERT INTO t VALUES ($1, $1, TRUE)", "PREPARE p AS SELECT $1 = a, NOT $1 FROM t",
