@@ -73,8 +73,13 @@ final class Probe {
 
     /** Reads a text; its nodes are due as shown. */
     void shows(String text, String want) {
+        due("nodes of " + text, nodesOf(text), want);
+    }
+
+    /** Reads a text, and answers all its nodes or the error. */
+    String nodesOf(String text) {
         int kind = read(text);
-        due("nodes of " + text, kind < 0 ? "error " + kind : nodes(), want);
+        return kind < 0 ? "error " + kind : nodes();
     }
 
     /** All nodes, with a blank between: leaves as they are written, else kind(first,second). */
