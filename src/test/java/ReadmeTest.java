@@ -146,7 +146,9 @@ public final class ReadmeTest {
         TreeSet<Integer> errors = new TreeSet<>();
         for (Matcher row : rows(readme, "| `read()` | Error", NUMBER + "\\| .* (?:" + CODE + "\\||\\| \\|)")) {
             int error = Integer.parseInt(row.group(1));
-            if (row.group(2) != null) {
+            if (row.group(2) == null) {
+                Probe.due("the error whose statements are too long for the table", error, -2);
+            } else {
                 tables().reads(error, row.group(2));
             }
             errors.add(-error);
@@ -177,41 +179,42 @@ public final class ReadmeTest {
         Probe.due("NOT IN", tables().nodesOf("SELECT a NOT IN (1, 2) FROM t"), in + " 25(6)");
     }
 
-    /** Every number that the table has is told, and none before or behind it. */
     private static void counts(String readme) {
         List<Integer> told = new ArrayList<>();
-        for (Matcher row : rows(readme, "| What |", NUMBER + "\\|.*")) {
-            told.add(Integer.parseInt(row.group(1)));
+        for (Matcher row : rows(readme, "| `what` |", NUMBER + "\\| [^|]*" + CODE + NUMBER + "\\|")) {
+            int what = Integer.parseInt(row.group(1));
+            Probe probe = tables();
+            Probe.due("read " + row.group(2), probe.read(row.group(2)) > 0, true);
+            Probe.due("count " + what + " of " + row.group(2), "" + probe.reader.count(what), row.group(3));
+            told.add(what);
         }
         Probe.due("what count tells", told.toString(), "" + upTo(0, 17));
-        Probe probe = tables();
-        probe.reads(8, "SELECT DISTINCT a FROM t WHERE c LIMIT 9");
-        StringBuilder got = new StringBuilder();
-        for (int what = -1; what <= told.size(); what++) {
-            got.append(" ").append(probe.reader.count(what));
-        }
-        Probe.due("counts", got.toString(), " -1 2 1 0 0 1 0 0 0 0 0 0 1 9 1 0 -1 -1 0 -1");
-        String modes = readme.replaceAll("(?s).*LOCK: (1 [^.]*)\\. BEGIN.*", "$1");
-        Probe.due("modes", modes.split(", ").length, 8);
-        for (String mode : modes.split(", ")) {
-            probe.reads(15, "LOCK t " + mode.substring(2));
+        String text = readme.replaceAll("\\s+", " ");
+        modes(15, "LOCK t ", text.replaceAll(".*modes of LOCK are (.*); those of BEGIN.*", "$1"));
+        String levels = text.replaceAll(".*those of BEGIN (.*); those of FOR.*", "$1");
+        modes(9, "BEGIN ", levels.replace("(also with none)", ""));
+        modes(8, "SELECT a FROM t FOR ", text.replaceAll(".*those of FOR (1 SHARE and 2 UPDATE)\\..*", "$1"));
+    }
+
+    /** Modes with their numbers before them. */
+    private static void modes(int kind, String before, String modes) {
+        for (String mode : modes.split(" *, | and ")) {
+            Probe probe = tables();
+            probe.reads(kind, before + mode.substring(2));
             Probe.due("mode " + mode, probe.reader.count(10), mode.charAt(0) - '0');
         }
     }
 
     private static void lists(String readme) {
         List<Integer> told = new ArrayList<>();
-        for (Matcher row : rows(readme, "| Which |", NUMBER + "\\|.*")) {
-            told.add(Integer.parseInt(row.group(1)));
+        for (Matcher row : rows(readme, "| `which` |", NUMBER + "\\| [^|]*" + CODE + "\\| ([-0-9 ]*) \\|")) {
+            int which = Integer.parseInt(row.group(1));
+            Probe probe = tables();
+            Probe.due("read " + row.group(2), probe.read(row.group(2)) > 0, true);
+            Probe.due("list " + which + " of " + row.group(2), probe.list(which, 3), row.group(3) + " -1");
+            told.add(which);
         }
         Probe.due("what list tells", told.toString(), "" + upTo(0, 9));
-        Probe probe = tables();
-        probe.reads(16, "PREPARE p AS UPDATE u SET a = $2 WHERE TRUE");
-        StringBuilder got = new StringBuilder();
-        for (int which = -1; which <= told.size(); which++) {
-            got.append(" ").append(probe.reader.list(which, 0));
-        }
-        Probe.due("lists", got.toString(), " -1 -1 -1 -1 1 0 0 -1 -1 0 -1 -1");
     }
 
     /** Every test of the project is named, and so is no other. */
